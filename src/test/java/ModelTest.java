@@ -1,6 +1,6 @@
 /** Long runs of calls, valid and wrong ones, answered by the class and by the Model alike. */
 public final class ModelTest {
-    private static final int RUNS = 3000;
+    private static final int RUNS = 1500;
 
     private long seed;
     private Towerliftry real;
