@@ -36,10 +36,18 @@ final class Expect {
         } catch (RuntimeException e) {
             if (e.getClass() != due) {
                 note(what + " threw " + e + ", due is " + due.getSimpleName());
+            } else if (!isThrownByTheClass(e)) {
+                note(what + ": " + e + " is the machine's or the library's own");
             }
             return;
         }
         note(what + " threw nothing, due is " + due.getSimpleName());
+    }
+
+    /** The library throws from a frame of its own, and the machine with no trace once it is hot. */
+    private static boolean isThrownByTheClass(RuntimeException e) {
+        StackTraceElement[] trace = e.getStackTrace();
+        return trace.length > 0 && trace[0].getClassName().equals("Towerliftry");
     }
 
     static void note(String text) {

@@ -21,6 +21,7 @@ public final class TermsTest {
         firePlaces();
         fireLetsOut();
         fireClosesDoors();
+        promisedBeyondReach();
         quakeAndFire();
         waitingInAQuake();
         Expect.end();
@@ -475,6 +476,26 @@ public final class TermsTest {
         Expect.same("nobody got in", house.state(0), 'w');
         house.pass(1);
         Expect.same("then it moves", house.floorOf(0), 3);
+    }
+
+    /** A promise from before the second car came: it stays, and the upper car is not pushed out of the house. */
+    private static void promisedBeyondReach() {
+        Towerliftry house = house('c', 0);
+        house.come(9, 0, 50, 30, 0);
+        house.quake(0);
+        house.pass(5);
+        Expect.same("promised", house.promised(9, false), 0);
+        house.car(0, 400, 0);
+        Expect.same("no more served", house.serves(0, 9), false);
+        Expect.same("promised still", house.promised(9, false), 0);
+        house.pass(24);
+        Expect.same("as near as it gets", house.floorOf(0), 7);
+        Expect.same("pushed as far as it gets", house.floorOf(1), 9);
+        Expect.same("up still", house.directionOf(0), 'u');
+        house.pass(2);
+        Expect.same("who waits there has walked", house.state(0), 's');
+        Expect.same("no stop left", house.directionOf(0), '-');
+        Expect.same("holds", house.isTrue(), true);
     }
 
     private static void quakeAndFire() {
