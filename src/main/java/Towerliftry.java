@@ -806,19 +806,22 @@ public final class Towerliftry {
         }
 
         boolean hasStopHere() {
-            if (has(goals, floor)) {
-                return true;
+            return has(goals, floor) || stopsForCallHere(UP) || stopsForCallHere(DOWN);
+        }
+
+        /** A call of the other direction has to wait, as long as a stop is ahead. */
+        boolean stopsForCallHere(int way) {
+            if (!has(callsFor(way == UP), floor)) {
+                return false;
             }
-            boolean takesBoth = direction == 0 || !hasStopToward(direction);
-            return has(upCalls, floor) && (takesBoth || direction == UP)
-                || has(downCalls, floor) && (takesBoth || direction == DOWN);
+            return direction == way || direction == 0 || !hasStopToward(direction);
         }
 
         void turnToCallHere() {
-            if (has(upCalls, floor)) {
+            if (stopsForCallHere(UP)) {
                 direction = UP;
                 upCalls &= ~bit(floor);
-            } else if (has(downCalls, floor)) {
+            } else if (stopsForCallHere(DOWN)) {
                 direction = DOWN;
                 downCalls &= ~bit(floor);
             }

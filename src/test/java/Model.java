@@ -390,14 +390,13 @@ final class Model {
     }
 
     void actClosed(int car, Lift lift) {
-        boolean up = promised(lift.floor, true) == car;
-        boolean down = promised(lift.floor, false) == car;
         boolean ahead = anyAhead(car, lift.direction);
-        boolean stop = false;
+        boolean up = promised(lift.floor, true) == car && (lift.direction == 'u' || !ahead);
+        boolean down = promised(lift.floor, false) == car && (lift.direction == 'd' || !ahead);
+        boolean stop = up || down;
         for (Man man : men) {
             stop |= man.state == 'i' && man.car == car && man.to == lift.floor;
         }
-        stop |= lift.direction == 'u' && up || lift.direction == 'd' && down || !ahead && (up || down);
         if (stop) {
             lift.open = true;
             lift.left = 2;

@@ -11,7 +11,9 @@ public final class TermsTest {
         orderOfPromises();
         endsOfPromises();
         bothDirectionsPromised();
-        turnsToTheCallThatIsPromised();
+        callOfTheOtherDirection();
+        callOfTheOtherDirectionAtTheEnd();
+        downWithAStopAhead();
         nearestStop();
         fullCar();
         whoGetsIn();
@@ -219,8 +221,8 @@ public final class TermsTest {
         Expect.same("down is not over", down.promised(4, false), 0);
     }
 
-    /** By the words: somebody gets out here, and the direction becomes that of the call promised to it. */
-    private static void turnsToTheCallThatIsPromised() {
+    /** Of the calls promised here only one for which the car stops tells the direction. */
+    private static void callOfTheOtherDirection() {
         Towerliftry house = house('c', 0);
         house.come(0, 5, 50, 100, 0);
         house.come(0, 8, 50, 100, 0);
@@ -230,13 +232,69 @@ public final class TermsTest {
         Expect.same("at 5", house.floorOf(0), 5);
         house.pass(1);
         Expect.same("opens for one who gets out", house.isOpen(0), true);
-        Expect.same("that of the call", house.directionOf(0), 'd');
-        notPromised("over", house, 5, false);
+        Expect.same("up, as 8 is ahead", house.directionOf(0), 'u');
+        Expect.same("so down is not over", house.promised(5, false), 0);
+        house.pass(1);
+        Expect.same("gets out", house.state(0), 'd');
+        Expect.same("does not get in yet", house.state(2), 'w');
+        house.pass(6);
+        Expect.same("goes on to 8", house.isOpen(0) && house.floorOf(0) == 8, true);
+        house.pass(8);
+        Expect.same("gets in on the way down", house.state(2), 'i');
+        Expect.same("down now", house.directionOf(0), 'd');
         Towerliftry passing = house('c', 0);
         passing.come(0, 8, 50, 100, 0);
         passing.come(5, 2, 50, 100, 0);
         passing.pass(10);
         Expect.same("does not stop for the other direction", passing.floorOf(0), 6);
+    }
+
+    private static void callOfTheOtherDirectionAtTheEnd() {
+        Towerliftry house = house('c', 0);
+        house.come(0, 5, 50, 100, 0);
+        house.come(5, 2, 50, 100, 0);
+        house.pass(9);
+        Expect.same("comes up", house.directionOf(0), 'u');
+        house.pass(1);
+        Expect.same("opens for both", house.isOpen(0), true);
+        Expect.same("turns, as no stop is ahead", house.directionOf(0), 'd');
+        notPromised("so down is over", house, 5, false);
+        house.pass(1);
+        Expect.same("one gets out", house.state(0), 'd');
+        Expect.same("one gets in", house.state(1), 'i');
+    }
+
+    /** Up goes first only where the car stops for both; below, a stop further down keeps it down. */
+    private static void downWithAStopAhead() {
+        Towerliftry house = house('c', 0);
+        place(house, 0, 9);
+        house.come(6, 1, 50, 100, 0);
+        house.come(6, 8, 50, 100, 0);
+        house.come(3, 0, 50, 100, 0);
+        house.pass(3);
+        Expect.same("at 6", house.floorOf(0), 6);
+        house.pass(1);
+        Expect.same("opens at 6", house.isOpen(0), true);
+        Expect.same("down, as 3 is ahead", house.directionOf(0), 'd');
+        notPromised("down is over", house, 6, false);
+        Expect.same("up is not", house.promised(6, true), 0);
+        house.pass(1);
+        Expect.same("down gets in", house.state(0), 'i');
+        Expect.same("up waits", house.state(1), 'w');
+
+        Towerliftry out = house('c', 0);
+        place(out, 0, 9);
+        out.come(9, 5, 50, 100, 0);
+        out.come(9, 2, 50, 100, 0);
+        out.come(5, 8, 50, 100, 0);
+        out.pass(8);
+        Expect.same("at 5", out.floorOf(0), 5);
+        out.pass(1);
+        Expect.same("opens for one who gets out", out.isOpen(0), true);
+        Expect.same("down still", out.directionOf(0), 'd');
+        Expect.same("up is promised still", out.promised(5, true), 0);
+        out.pass(1);
+        Expect.same("up does not get in", out.state(2), 'w');
     }
 
     private static void nearestStop() {
